@@ -355,7 +355,6 @@ public final class MirrorHouse {
         if (!within(d, 1, MOST_FAR)) return OUTSIDE;
         int needed = house.fewestToOpen(d);
         if (k == -1) return needed;
-        if (k >= needed) return NONE;
         return k == 0 ? house.firstToOpen : house.secondToOpen;
     }
 
@@ -731,7 +730,7 @@ public final class MirrorHouse {
             return roomsWithin(rooms) == allRooms();
         }
 
-        /** How many sides need be open for all to be near; which, in firstToOpen, secondToOpen. */
+        /** How many sides need be open for all to be near; which, in firstToOpen, secondToOpen, else NONE. */
         int fewestToOpen(int d) {
             openBy(panes);
             System.arraycopy(opens, 0, opensNow, 0, opens.length);

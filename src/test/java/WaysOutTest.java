@@ -40,7 +40,9 @@ public final class WaysOutTest {
         d.due("ahead of it", way.far(0, 2), 6);
         way.pane(0, 1, 2);
         d.due("another way out", way.shut(0), -9);
+        d.due("far at once behind a change", way.far(0, 0), 1);
         way.pane(0, 6, 0);
+        d.due("far at once behind a change", way.far(0, 3), -9);
         d.due("room 2 is shut in", way.shut(0), 2);
         d.due("from 3 there is none", way.far(0, 3), -9);
         d.due("from 4 there is none", way.far(0, 4), -9);
@@ -86,6 +88,8 @@ public final class WaysOutTest {
         d.due("more than two for 1", way.opened(0, 1, -1), -9);
         d.due("no first", way.opened(0, 1, 0), -9);
         d.due("no second", way.opened(0, 1, 1), -9);
+        d.due("no second behind two", way.opened(0, 7, 1), -9);
+        d.due("no first behind two", way.opened(0, 8, 0), -9);
         d.due("nothing has been opened", way.ofHouse(0, 6), 8);
         MirrorHouse shut = of("w1h1;mgggm");
         d.due("two for 2", shut.opened(0, 2, -1), 2);
@@ -130,22 +134,19 @@ public final class WaysOutTest {
     }
 
     private static void keepsThoseThatDoNotCount() {
-        // all the ways to and fro inside are open: by the hand he may go round a post for ever
-        MirrorHouse x = of(Due.all(2, 2, 'm'));
-        for (int k : new int[] {3, 4, 5, 6, 8, 9, 10, 11, 0}) x.pane(0, k, 2);
-        int border = x.side(0, 0, 1);
-        x.pane(0, border, 2);
-        int ticks = 0;
-        for (int way = 0; way < 3; way++) {
-            for (int room = 0; room < 8; room++) {
-                int kept = keeps(x, room, way, 0, border);
-                x.pane(0, border, 2);
-                MirrorHouse y = x;
-                ticks = Math.max(ticks, kept);
-                if (kept == -9) d.due("it goes round: no number", keeps(y, room, way, 1, border), -9);
-            }
+        // fair only with side 0 open; then a blind one in room 1 that came by 1 goes round for ever
+        MirrorHouse x = of(Due.with(Due.all(2, 2, 'm'), 'o', 1, 3, 4, 6, 8, 9, 10, 11));
+        for (int[] start : new int[][] {{1, 1}, {2, 0}, {2, 2}}) {
+            d.due("it is never out", keeps(x, start[0], start[1], 0, 0), -9);
+            d.due("no number", keeps(x, start[0], start[1], 1, 0), -9);
         }
-        d.due("some are out", ticks > 0 ? 1 : 0, 1);
+        x.pane(0, 0, 2);
+        d.due("fair", x.shut(0), -9);
+        x.walker(0, 0, 1, 1);
+        d.due("a walker goes round, too", x.ticks(0, 200), 1);
+        d.due("in all ticks", x.ofWalker(0, 4), 200);
+        d.due("from room 0 it is out", keeps(x, 0, 0, 0, 0), 1);
+        d.due("side 0 is open", keeps(x, 0, 0, 1, 0), 1);
         // a way of 8 rooms, to and fro: the glass ahead of the near border makes it go the long way
         MirrorHouse way = of("w4h1;oom" + "oom" + "oom" + "oom" + "o" + "mmmm");
         d.due("out at once", keeps(way, 0, 0, 0, 12), 1);
