@@ -17,19 +17,19 @@ final class Due {
     }
 
     /** Sheet k becomes a row of bytes that is this text. */
-    static void write(MirrorHouse x, int k, String text) {
+    static void write(Counted x, int k, String text) {
         x.sheet(k, 0, text.length());
         for (int i = 0; i < text.length(); i++) x.put(k, i, text.charAt(i));
     }
 
     /** What house() answers to a text, written on sheet 3. */
-    static int build(MirrorHouse x, String text) {
+    static int build(Counted x, String text) {
         write(x, 3, text);
         return x.house(3, 0, 0, text.length());
     }
 
     /** Sheet k becomes a row of ints. */
-    static void row(MirrorHouse x, int k, int... cells) {
+    static void row(Counted x, int k, int... cells) {
         x.sheet(k, 2, cells.length);
         for (int i = 0; i < cells.length; i++) x.put(k, i, cells[i]);
     }

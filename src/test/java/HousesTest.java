@@ -15,7 +15,7 @@ public final class HousesTest {
     }
 
     private static void newObject() {
-        MirrorHouse x = new MirrorHouse();
+        Counted x = new Counted();
         for (int what = 0; what <= 4; what++) d.due("many of new", x.many(what), 0);
         for (int k = 0; k < 4; k++) d.due("lose of new", x.lose(k), 0);
         d.due("taken of new", x.taken(0), -1);
@@ -31,7 +31,7 @@ public final class HousesTest {
     private static void texts() {
         for (int w = 1; w <= 4; w++) {
             for (int h = 1; h <= 3; h++) {
-                MirrorHouse x = new MirrorHouse();
+                Counted x = new Counted();
                 String text = Due.all(w, h, 'g');
                 d.due("house " + text, Due.build(x, text), 0);
                 d.due("W", x.ofHouse(0, 0), w);
@@ -44,7 +44,7 @@ public final class HousesTest {
                 d.due("many", x.many(0), 1);
             }
         }
-        MirrorHouse x = new MirrorHouse();
+        Counted x = new Counted();
         Due.write(x, 0, "xx" + "w1h1;mgogm" + "yy");
         d.due("from the midst of a sheet", x.house(0, 0, 2, 10), 0);
         int[] kinds = {0, 1, 2, 1, 0};
@@ -60,7 +60,7 @@ public final class HousesTest {
     }
 
     private static void firstFaults() {
-        MirrorHouse x = new MirrorHouse();
+        Counted x = new Counted();
         String good = "w2h1;oommggoom";
         for (int i = 0; i <= good.length(); i++) {
             d.due("cut at " + i, Due.build(x, good.substring(0, i)), i < good.length() ? -100 - i : 0);
@@ -80,7 +80,7 @@ public final class HousesTest {
     }
 
     private static void faultsOfHouse() {
-        MirrorHouse x = new MirrorHouse();
+        Counted x = new Counted();
         d.due("no such sheet -1", x.house(-1, 9, 0, 0), -1);
         d.due("no such sheet 4", x.house(4, 0, 0, 0), -1);
         d.due("sort 3 of nothing", x.house(0, 3, 0, 0), -2);
@@ -107,7 +107,7 @@ public final class HousesTest {
     }
 
     private static void full() {
-        MirrorHouse x = new MirrorHouse();
+        Counted x = new Counted();
         for (int h = 0; h < 3; h++) d.due("house " + h, Due.build(x, Due.all(h + 1, 1, 'm')), h);
         d.due("a fourth", Due.build(x, Due.all(1, 1, 'm')), -4);
         d.due("fault", x.fault(), 0);
@@ -119,7 +119,7 @@ public final class HousesTest {
     }
 
     private static void counts() {
-        MirrorHouse x = new MirrorHouse();
+        Counted x = new Counted();
         Due.build(x, "w2h1;mggooommm");
         d.due("MIRRORS", x.ofHouse(0, 4), 4);
         d.due("GLASS", x.ofHouse(0, 5), 2);
@@ -131,7 +131,7 @@ public final class HousesTest {
     }
 
     private static void layout() {
-        MirrorHouse x = new MirrorHouse();
+        Counted x = new Counted();
         Due.build(x, Due.all(4, 3, 'o'));
         // the midst: c = 4 + 1, its first room 10
         d.due("10 way 2", x.side(0, 10, 2), 15);
@@ -178,7 +178,7 @@ public final class HousesTest {
     }
 
     private static void panes() {
-        MirrorHouse x = new MirrorHouse();
+        Counted x = new Counted();
         Due.build(x, "w1h1;ggmmm");
         d.due("pane", x.pane(0, 2, 1), 0);
         d.due("is glass", x.ofSide(0, 2, 0), 1);

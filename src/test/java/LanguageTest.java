@@ -65,6 +65,11 @@ public final class LanguageTest {
         must(constants.equals(due), "the constants of the face: " + constants);
     }
 
+    private static boolean isOfFace(String name) {
+        for (String one : FACE) if (one.startsWith(name + "(")) return true;
+        return false;
+    }
+
     private static String signature(Method m) {
         StringBuilder text = new StringBuilder(m.getName()).append('(');
         for (Class<?> p : m.getParameterTypes()) text.append(text.charAt(text.length() - 1) == '(' ? "" : ",").append(p.getName());
@@ -85,6 +90,7 @@ public final class LanguageTest {
             }
             must(fields <= 20, c + " has " + fields + " fields");
             for (Method m : c.getDeclaredMethods()) {
+                must(c == MirrorHouse.class || !isOfFace(m.getName()), m + " bears a name of the face");
                 must(m.getParameterCount() <= 7 || m.getName().equals("keeps"), m + " takes too many");
                 must(!m.getName().startsWith("lambda$"), m + " is a lambda");
             }

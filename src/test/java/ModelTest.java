@@ -3,11 +3,12 @@ import java.util.Random;
 /** All promises: runs of calls, the same ones each time, against the model. */
 public final class ModelTest {
     private static final Due d = new Due();
-    private static final int RUNS = 400, CALLS = 512;
+    // the most calls that any(), that tellHouse(), tellPhotograph() makes
+    private static final int RUNS = 400, AT_ONCE = 16, OF_A_TEXT = 60, OF_A_PHOTOGRAPH = 40;
 
     private final Random random;
     private final int run;
-    private final MirrorHouse x = new MirrorHouse();
+    private final Counted x = new Counted();
     private final Model m = new Model();
     private final boolean wild;
 
@@ -22,19 +23,22 @@ public final class ModelTest {
         d.end();
     }
 
-    private int calls = 0;
-
+    /** All the calls that the document promises answers for, the last one too. */
     private void go() {
-        while (calls < CALLS) {
-            if (random.nextInt(calls < 200 ? 12 : 30) == 0 && calls + 60 < CALLS) tellHouse();
-            else if (random.nextInt(60) == 0 && calls + 40 < CALLS) tellPhotograph();
+        while (left() >= AT_ONCE) {
+            if (random.nextInt(left() > 300 ? 12 : 30) == 0 && left() >= OF_A_TEXT) tellHouse();
+            else if (random.nextInt(60) == 0 && left() >= OF_A_PHOTOGRAPH) tellPhotograph();
             else any();
         }
+        for (int k = 0; left() > 0; k++) due("many(" + k + ")", x.many(k), m.many(k));
+    }
+
+    private int left() {
+        return Counted.MOST - x.calls();
     }
 
     private void due(String call, long got, long want) {
-        calls++;
-        d.due("run " + run + ", call " + calls + ": " + call, got, want);
+        d.due("run " + run + ", call " + x.calls() + ": " + call, got, want);
     }
 
     /** A number from least to most, now and then one just beyond or a far one. */

@@ -13,8 +13,8 @@ public final class PartsTest {
     }
 
     /** Walkers 0 to 2 of the three kinds, that went to and fro for three ticks. */
-    private static MirrorHouse walked() {
-        MirrorHouse x = new MirrorHouse();
+    private static Counted walked() {
+        Counted x = new Counted();
         d.due("house", Due.build(x, "w1h1;ommmm"), 0);
         for (int kind = 0; kind < 3; kind++) x.walker(kind, 0, 0, 0);
         d.due("ticks", x.ticks(0, 3), 3);
@@ -28,7 +28,7 @@ public final class PartsTest {
     }
 
     private static void telling() {
-        MirrorHouse x = walked();
+        Counted x = walked();
         d.due("blind", x.tell(0), 3);
         d.due("trace", x.trace(), traceOf(1));
         d.due("seer", x.tell(1), 103);
@@ -41,7 +41,7 @@ public final class PartsTest {
         x.ticks(0, 1);
         d.due("one tick on", x.tell(0), 4);
         d.due("wary", x.tell(2), 108);
-        MirrorHouse y = new MirrorHouse();
+        Counted y = new Counted();
         Due.build(y, "w1h1;mgmmm");
         y.walker(1, 0, 0, 0);
         y.ticks(0, 3);
@@ -49,7 +49,7 @@ public final class PartsTest {
     }
 
     private static void greeting() {
-        MirrorHouse x = walked();
+        Counted x = walked();
         x.walker(1, 0, 0, 0);
         d.due("blind", x.greet(0), 0);
         d.due("trace", x.trace(), traceOf(4));
@@ -64,7 +64,7 @@ public final class PartsTest {
     }
 
     private static void traceWraps() {
-        MirrorHouse x = walked();
+        Counted x = walked();
         int trace = 0;
         for (int k = 0; k < 40; k++) {
             x.greet(k % 3);
@@ -74,7 +74,7 @@ public final class PartsTest {
     }
 
     private static void kinds() {
-        MirrorHouse x = walked();
+        Counted x = walked();
         for (int w = 0; w < 3; w++) {
             for (int kind = 0; kind < 3; kind++) {
                 boolean is = kind <= w;
@@ -93,7 +93,7 @@ public final class PartsTest {
     }
 
     private static void counts() {
-        MirrorHouse x = walked();
+        Counted x = walked();
         d.due("houses", x.many(0), 1);
         d.due("reports", x.many(1), 0);
         d.due("rows", x.many(2), 0);

@@ -13,12 +13,12 @@ public final class SheetsTest {
         d.end();
     }
 
-    private static void fault(MirrorHouse x, int want) {
+    private static void fault(Counted x, int want) {
         d.due("fault", x.fault(), want);
     }
 
     private static void sheets() {
-        MirrorHouse x = new MirrorHouse();
+        Counted x = new Counted();
         d.due("new", x.sheet(0, 0, 0), 1);
         d.due("longest", x.sheet(1, 2, 60), 1);
         d.due("n 61", x.sheet(1, 2, 61), -2);
@@ -55,7 +55,7 @@ public final class SheetsTest {
     }
 
     private static void cuts() {
-        MirrorHouse x = new MirrorHouse();
+        Counted x = new Counted();
         for (int sort = 0; sort < 3; sort++) x.sheet(sort, sort, 3);
         int[] v = {127, 128, 255, 256, -128, -129, 32767, 32768, 65536, -32769, Integer.MAX_VALUE, Integer.MIN_VALUE};
         long[] bytes = {127, -128, -1, 0, -128, 127, -1, 0, 0, -1, -1, 0};
@@ -72,7 +72,7 @@ public final class SheetsTest {
     }
 
     private static void cells() {
-        MirrorHouse x = new MirrorHouse();
+        Counted x = new Counted();
         d.due("nothing is no cast", x.cell(0, -1, 1), LOST);
         fault(x, 1);
         d.due("put to nothing", x.put(0, -1, 1), -11);
@@ -106,7 +106,7 @@ public final class SheetsTest {
     }
 
     private static void copies() {
-        MirrorHouse x = new MirrorHouse();
+        Counted x = new Counted();
         Due.row(x, 0, 1, 2, 3, 4, 5, 6);
         x.sheet(1, 2, 4);
         d.due("copy", x.copy(0, 2, 1, 1, 3), 3);
@@ -125,7 +125,7 @@ public final class SheetsTest {
     }
 
     private static void faultsOfCopy() {
-        MirrorHouse x = new MirrorHouse();
+        Counted x = new Counted();
         x.sheet(0, 2, 6);
         x.sheet(1, 1, 4);
         x.sheet(2, 2, 4);
@@ -155,7 +155,7 @@ public final class SheetsTest {
 
     /** Calls that name no faults leave the latest one as it is. */
     private static void faultStays() {
-        MirrorHouse x = new MirrorHouse();
+        Counted x = new Counted();
         Due.build(x, Due.all(1, 1, 'o'));
         x.walker(0, 0, 0, 0);
         x.put(3, 60, 0);

@@ -14,13 +14,13 @@ public final class SightTest {
         d.end();
     }
 
-    private static MirrorHouse of(String text) {
-        MirrorHouse x = new MirrorHouse();
+    private static Counted of(String text) {
+        Counted x = new Counted();
         d.due("house " + text, Due.build(x, text), 0);
         return x;
     }
 
-    private static void seen(MirrorHouse x, int room, int[] turn, int n, int... want) {
+    private static void seen(Counted x, int room, int[] turn, int n, int... want) {
         for (int what = 0; what < 4; what++) {
             d.due("seen from " + room + " by " + turn[0] + ", " + turn[1] + " for " + n + ": " + what,
                 x.seen(0, room, turn[0], turn[1], n, what), want[what]);
@@ -32,7 +32,7 @@ public final class SightTest {
     }
 
     private static void ends() {
-        MirrorHouse open = of(Due.all(1, 1, 'o'));
+        Counted open = of(Due.all(1, 1, 'o'));
         seen(open, 0, by(-1, 0), 5, 1, 1, 0, 0);
         seen(open, 0, by(1, 0), 5, 1, 2, 0, 1);
         seen(open, 0, by(1, 0), 2, 1, 2, 0, 1);
@@ -46,7 +46,7 @@ public final class SightTest {
         seen(open, 0, by(1, 1), 1, 2, 1, 0, 1);
         seen(open, 0, by(1, 1), 2, 0, 1, 0, 1);
         // a post ends it, though all sides there are mirrors; the length of a turn is no matter
-        MirrorHouse shut = of(Due.all(1, 1, 'm'));
+        Counted shut = of(Due.all(1, 1, 'm'));
         seen(shut, 0, by(1, 1), 200, 0, 1, 1, 0);
         seen(shut, 0, by(60, 60), 200, 0, 1, 1, 0);
         seen(shut, 0, by(1, -2), 1, 2, 1, 1, 0);
@@ -54,7 +54,7 @@ public final class SightTest {
         seen(shut, 0, by(1, 0), 200, 2, 200, 200, 0);
         seen(shut, 1, by(-1, 0), 37, 2, 37, 37, 1);
         // glass is as open for sight, smeared or not
-        MirrorHouse glass = of(Due.all(1, 1, 'g'));
+        Counted glass = of(Due.all(1, 1, 'g'));
         seen(glass, 0, by(1, 0), 5, 1, 2, 0, 1);
         glass.walker(1, 0, 0, 1);
         glass.ticks(0, 3);
@@ -64,7 +64,7 @@ public final class SightTest {
 
     private static void folds() {
         // room 0 over its mirror of way 1: behind it the ways 0 and 2 have changed places
-        MirrorHouse x = of("w1h1;ommmm");
+        Counted x = of("w1h1;ommmm");
         d.due("first", x.met(0, 0, -3, 1, 0), 1);
         d.due("second: way 2 of the plane is way 0 of the room", x.met(0, 0, -3, 1, 1), 2);
         seen(x, 0, by(-3, 1), 2, 2, 2, 2, 0);
@@ -72,17 +72,17 @@ public final class SightTest {
         d.due("first", x.met(0, 0, 1, -3, 0), 2);
         d.due("second", x.met(0, 0, 1, -3, 1), 1);
         // a second room over way 1
-        MirrorHouse y = of("w1h1;mgmmo");
+        Counted y = of("w1h1;mgmmo");
         d.due("first", y.met(0, 1, 3, -1, 0), 3);
         d.due("second: way 2 of the plane is way 0 of the room", y.met(0, 1, 3, -1, 1), 4);
         seen(y, 1, by(3, -1), 5, 1, 2, 1, 1);
         // over way 2: 0 and 1 have
-        MirrorHouse z = of("w1h1;mgomm");
+        Counted z = of("w1h1;mgomm");
         d.due("first", z.met(0, 0, 3, 1, 0), 0);
         d.due("second: way 1 of the plane is way 0 of the room", z.met(0, 0, 3, 1, 1), 2);
         d.due("it is out there", z.met(0, 0, 3, 1, 2), -9);
         seen(z, 0, by(3, 1), 5, 1, 2, 1, 0);
-        MirrorHouse shut = of(Due.all(1, 1, 'm'));
+        Counted shut = of(Due.all(1, 1, 'm'));
         d.due("the 200th", shut.met(0, 0, 1, 0, 199), 2);
         d.due("the 199th", shut.met(0, 0, 1, 0, 198), 0);
         d.due("the 201st", shut.met(0, 0, 1, 0, 200), -9);
@@ -94,7 +94,7 @@ public final class SightTest {
     }
 
     private static void refusalsOfSight() {
-        MirrorHouse x = of(Due.all(2, 1, 'o'));
+        Counted x = of(Due.all(2, 1, 'o'));
         for (int[] room : new int[][] {{0, 4}, {0, -1}, {1, 0}, {-1, 0}}) {
             d.due("seen", x.seen(room[0], room[1], 0, 0, 0, 9), -1);
             d.due("met", x.met(room[0], room[1], 0, 0, -1), -1);
@@ -125,12 +125,12 @@ public final class SightTest {
     }
 
     private static void images() {
-        MirrorHouse open = of(Due.all(1, 1, 'o'));
+        Counted open = of(Due.all(1, 1, 'o'));
         d.due("over the side", open.image(0, 0, 1, 1), 1);
         d.due("and back", open.image(0, 1, -1, -1), 0);
         d.due("out ahead", open.image(0, 0, 3, 0), -9);
         d.due("none behind a border", open.image(0, 0, -2, 1), -9);
-        MirrorHouse shut = of(Due.all(1, 1, 'm'));
+        Counted shut = of(Due.all(1, 1, 'm'));
         d.due("me", shut.image(0, 0, 1, 1), 0);
         d.due("me again", shut.image(0, 0, 1, -2), 0);
         d.due("me, far away", shut.image(0, 0, 60, 0), 0);
@@ -151,18 +151,18 @@ public final class SightTest {
         d.due("one of the other", open.images(0, 0, 1, 24, 0), 1);
         d.due("a turn below 0", open.images(0, 1, 0, 1, 1), -1);
         // two as near, with the same p: in a house of 2 by 2 room 0 has room 3 and 5 at (4, 1), (1, 4); the least p
-        MirrorHouse wide = of(Due.all(2, 2, 'o'));
+        Counted wide = of(Due.all(2, 2, 'o'));
         d.due("4, 1", wide.image(0, 0, 4, 1), 3);
         d.due("p of 3", wide.images(0, 0, 3, 4, 1), 4);
         d.due("q of 3", wide.images(0, 0, 3, 4, 2), 1);
         d.due("not within 3", wide.images(0, 0, 3, 3, 0), 0);
-        MirrorHouse far = of(Due.all(4, 3, 'o'));
+        Counted far = of(Due.all(4, 3, 'o'));
         d.due("60 is farther than any", far.image(0, 0, 9, 6), 22);
         d.due("a turn through posts", far.image(0, 0, 7, 7), -9);
     }
 
     private static void reports() {
-        MirrorHouse x = of(Due.all(2, 2, 'o'));
+        Counted x = of(Due.all(2, 2, 'o'));
         Due.build(x, Due.all(1, 1, 'o'));
         d.due("no reports: all fit", x.spots(0), 255);
         d.due("all of the other", x.spots(1), 3);
@@ -190,12 +190,12 @@ public final class SightTest {
         d.due("many", x.many(1), 12);
         d.due("house 2", x.spots(2), -1);
         d.due("house -1", x.spots(-1), -1);
-        MirrorHouse all = of(Due.all(4, 3, 'm'));
+        Counted all = of(Due.all(4, 3, 'm'));
         d.due("24 rooms", all.spots(0), (1 << 24) - 1);
     }
 
     private static void spotsAsTheHouseIsNow() {
-        MirrorHouse x = of(Due.all(1, 1, 'o'));
+        Counted x = of(Due.all(1, 1, 'o'));
         x.report(0, 0, 1, 1, true);
         d.due("behind it", x.spots(0), 2);
         x.pane(0, 0, 0);
@@ -203,7 +203,7 @@ public final class SightTest {
     }
 
     private static void photographs() {
-        MirrorHouse x = of(Due.all(2, 1, 'o'));
+        Counted x = of(Due.all(2, 1, 'o'));
         d.due("none yet", x.taken(0), -3);
         d.due("unknown ahead of state", x.taken(1), -1);
         Due.row(x, 0, 1, 0, 1, 2, 0, -1, 0, 1, 3, 0);
@@ -245,7 +245,7 @@ public final class SightTest {
     }
 
     private static void refusalsOfPhotograph() {
-        MirrorHouse x = of(Due.all(1, 1, 'o'));
+        Counted x = of(Due.all(1, 1, 'o'));
         d.due("sheet 4", x.photograph(4, 3, 0, 5), -1);
         d.due("sheet -1", x.photograph(-1, 3, 0, 5), -1);
         d.due("sort 3", x.photograph(0, 3, 0, 5), -2);

@@ -13,14 +13,14 @@ public final class WalkersTest {
         d.end();
     }
 
-    private static MirrorHouse of(String text) {
-        MirrorHouse x = new MirrorHouse();
+    private static Counted of(String text) {
+        Counted x = new Counted();
         d.due("house " + text, Due.build(x, text), 0);
         return x;
     }
 
     private static void newWalkers() {
-        MirrorHouse x = of(Due.all(2, 1, 'm'));
+        Counted x = of(Due.all(2, 1, 'm'));
         d.due("kind 3", x.walker(3, 0, 0, 0), -2);
         d.due("kind -1", x.walker(-1, 0, 0, 0), -2);
         d.due("way 3", x.walker(0, 0, 0, 3), -2);
@@ -54,7 +54,7 @@ public final class WalkersTest {
         for (int room = 0; room < 2; room++) {
             for (int came = 0; came < 3; came++) {
                 for (int shut = 0; shut < 4; shut++) {
-                    MirrorHouse x = of(Due.all(1, 1, 'o'));
+                    Counted x = of(Due.all(1, 1, 'o'));
                     int[] order = room == 0 ? new int[] {1, 2, 0} : new int[] {2, 1, 0};
                     for (int k = 0; k < shut; k++) x.pane(0, x.side(0, room, (came + order[k]) % 3), k % 2);
                     x.walker(0, 0, room, came);
@@ -74,7 +74,7 @@ public final class WalkersTest {
 
     private static void seers() {
         // room 0: way 1 glass, way 2 a mirror, way 0 glass
-        MirrorHouse x = of("w1h1;mggoo");
+        Counted x = of("w1h1;mggoo");
         x.walker(1, 0, 0, 0);
         d.due("tick", x.ticks(0, 1), 1);
         d.due("ran into way 1", x.ofSide(0, 1, 4), 1);
@@ -101,13 +101,13 @@ public final class WalkersTest {
         d.due("TICKS till then stay", x.ofWalker(0, 6), 7);
         d.due("out", x.many(4), 1);
         // an open side ahead of glass is taken
-        MirrorHouse y = of("w1h1;ggooo");
+        Counted y = of("w1h1;ggooo");
         y.walker(1, 0, 0, 2);
         y.ticks(0, 1);
         d.due("out by way 0", y.ofWalker(0, 6), 1);
         d.due("none smeared", y.ofHouse(0, 7), 0);
         // a blind one does not run into glass
-        MirrorHouse z = of("w1h1;gggoo");
+        Counted z = of("w1h1;gggoo");
         z.walker(0, 0, 0, 2);
         d.due("stays", z.ticks(0, 5), 1);
         d.due("ran never", z.ofWalker(0, 5), 0);
@@ -116,7 +116,7 @@ public final class WalkersTest {
 
     private static void wary() {
         // rooms 0 and 1, 2 and 3 in a row; from 0 by way 2 to 1, by way 1 to 2, by way 2 to 3: shut in
-        MirrorHouse x = of("w2h1;ommoommmm");
+        Counted x = of("w2h1;ommoommmm");
         x.walker(2, 0, 0, 0);
         int[] rooms = {1, 2, 3, 2, 1, 0, 1, 2};
         for (int room : rooms) {
@@ -125,7 +125,7 @@ public final class WalkersTest {
         }
         d.due("went", x.ofWalker(0, 4), 8);
         // in room 1 it had been by way 2 once and by way 1 never, then by way 1 once less
-        MirrorHouse y = of(Due.all(1, 1, 'm'));
+        Counted y = of(Due.all(1, 1, 'm'));
         y.pane(0, 0, 2);
         y.walker(2, 0, 0, 2);
         d.due("to and fro", y.ticks(0, 6), 1);
@@ -136,7 +136,7 @@ public final class WalkersTest {
         y.ticks(0, 1);
         d.due("both never tried: by the hand", y.ofWalker(0, 3), 0);
         // by fewest times against the hand
-        MirrorHouse z = of("w1h1;mgmmm");
+        Counted z = of("w1h1;mgmmm");
         z.walker(2, 0, 0, 0);
         z.walker(1, 0, 0, 0);
         z.ticks(0, 1);
@@ -152,7 +152,7 @@ public final class WalkersTest {
 
     private static void waryCountsTogether() {
         // it goes by side 0 to room 1 and back: twice; runs into side 1 once, into side 2 twice
-        MirrorHouse x = of("w1h1;mgmmm");
+        Counted x = of("w1h1;mgmmm");
         x.walker(2, 0, 0, 0);
         x.ticks(0, 1);
         x.pane(0, 1, 0);
@@ -172,7 +172,7 @@ public final class WalkersTest {
         x.ticks(0, 1);
         d.due("both twice: by the hand", x.ofWalker(0, 3), 1);
         // a way gone by counts from both rooms
-        MirrorHouse y = of("w1h1;ommmm");
+        Counted y = of("w1h1;ommmm");
         y.walker(2, 0, 0, 0);
         y.ticks(0, 2);
         y.pane(0, 1, 1);
@@ -184,7 +184,7 @@ public final class WalkersTest {
     }
 
     private static void byNumbers() {
-        MirrorHouse x = of("w1h1;mgmmm");
+        Counted x = of("w1h1;mgmmm");
         x.walker(1, 0, 0, 0);
         x.walker(1, 0, 0, 0);
         x.ticks(0, 1);
@@ -193,7 +193,7 @@ public final class WalkersTest {
     }
 
     private static void ticksOfOneHouse() {
-        MirrorHouse x = of(Due.all(2, 1, 'o'));
+        Counted x = of(Due.all(2, 1, 'o'));
         Due.build(x, Due.all(1, 1, 'o'));
         x.walker(0, 0, 0, 0);
         x.walker(0, 1, 0, 0);

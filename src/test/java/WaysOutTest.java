@@ -14,24 +14,24 @@ public final class WaysOutTest {
         d.end();
     }
 
-    private static MirrorHouse of(String text) {
-        MirrorHouse x = new MirrorHouse();
+    private static Counted of(String text) {
+        Counted x = new Counted();
         d.due("house " + text, Due.build(x, text), 0);
         return x;
     }
 
     private static void shutAndFar() {
-        MirrorHouse open = of(Due.all(4, 3, 'o'));
+        Counted open = of(Due.all(4, 3, 'o'));
         d.due("fair", open.shut(0), -9);
         d.due("by the border", open.far(0, 0), 1);
         d.due("over one", open.far(0, 1), 2);
         d.due("in the midst", open.far(0, 10), 3);
         d.due("in the midst", open.far(0, 11), 3);
-        MirrorHouse shut = of(Due.all(4, 3, 'g'));
+        Counted shut = of(Due.all(4, 3, 'g'));
         d.due("shut, the first", shut.shut(0), 0);
         d.due("none", shut.far(0, 0), -9);
         // a way through all the 4: in from room 7 to room 0
-        MirrorHouse way = of("w4h1;omm" + "oom" + "oom" + "oom" + "o" + "mmmm");
+        Counted way = of("w4h1;omm" + "oom" + "oom" + "oom" + "o" + "mmmm");
         d.due("fair", way.shut(0), -9);
         for (int room = 0; room < 8; room++) d.due("far of " + room, way.far(0, room), 8 - room);
         way.pane(0, 4, 1);
@@ -52,7 +52,7 @@ public final class WaysOutTest {
         d.due("far of house 1", way.far(1, 0), -1);
         d.due("far of room 8", way.far(0, 8), -1);
         d.due("far of room -1", way.far(0, -1), -1);
-        MirrorHouse longest = of("w4h3;" + "ooo".repeat(12) + "ooooooo");
+        Counted longest = of("w4h3;" + "ooo".repeat(12) + "ooooooo");
         for (int k = 0; k < 43; k++) longest.pane(0, k, 0);
         // one way through all 24 rooms: along y 0, back along y 1, along y 2
         for (int c = 0; c < 12; c++) longest.pane(0, 3 * c, 2);
@@ -66,7 +66,7 @@ public final class WaysOutTest {
     }
 
     private static void opened() {
-        MirrorHouse way = of("w4h1;omm" + "oom" + "oom" + "oom" + "o" + "mmmm");
+        Counted way = of("w4h1;omm" + "oom" + "oom" + "oom" + "o" + "mmmm");
         for (int far = 1; far <= 30; far++) {
             if (far >= 8) {
                 d.due("none needed for " + far, way.opened(0, far, -1), 0);
@@ -91,7 +91,7 @@ public final class WaysOutTest {
         d.due("no second behind two", way.opened(0, 7, 1), -9);
         d.due("no first behind two", way.opened(0, 8, 0), -9);
         d.due("nothing has been opened", way.ofHouse(0, 6), 8);
-        MirrorHouse shut = of("w1h1;mgggm");
+        Counted shut = of("w1h1;mgggm");
         d.due("two for 2", shut.opened(0, 2, -1), 2);
         d.due("a side that is not a border", shut.opened(0, 2, 0), 0);
         d.due("and a border", shut.opened(0, 2, 1), 1);
@@ -106,14 +106,14 @@ public final class WaysOutTest {
         d.due("d 30", shut.opened(0, 30, -1), 2);
     }
 
-    private static int keeps(MirrorHouse x, int room, int way, int what, int... sides) {
+    private static int keeps(Counted x, int room, int way, int what, int... sides) {
         Due.row(x, 0, sides);
         return x.keeps(0, room, way, 0, 2, 0, sides.length, what);
     }
 
     private static void keeps() {
         // room 0 that came by 0 goes by 1, 2, 0
-        MirrorHouse x = of("w1h1;omomo");
+        Counted x = of("w1h1;omomo");
         d.due("by 2 then out: its way 1 is glass", keeps(x, 0, 0, 0, 1), 2);
         d.due("that is 0", keeps(x, 0, 0, 1, 1), 0);
         d.due("with side 0 glass it is out by way 0", keeps(x, 0, 0, 0, 0), 2);
@@ -126,7 +126,7 @@ public final class WaysOutTest {
         d.due("the house is as it was", x.ofHouse(0, 6), 3);
         d.due("its sides are", x.ofSide(0, 1, 0), 0);
         d.due("none smeared", x.ofHouse(0, 7), 0);
-        MirrorHouse shut = of(Due.all(1, 1, 'm'));
+        Counted shut = of(Due.all(1, 1, 'm'));
         d.due("room 1 cannot be out", keeps(shut, 0, 0, 0, 1, 2), -9);
         d.due("no way", keeps(shut, 0, 0, 1, 1, 2), -9);
         d.due("all but side 0", keeps(shut, 0, 0, 0, 1, 2, 3, 4), 1);
@@ -135,7 +135,7 @@ public final class WaysOutTest {
 
     private static void keepsThoseThatDoNotCount() {
         // fair only with side 0 open; then a blind one in room 1 that came by 1 goes round for ever
-        MirrorHouse x = of(Due.with(Due.all(2, 2, 'm'), 'o', 1, 3, 4, 6, 8, 9, 10, 11));
+        Counted x = of(Due.with(Due.all(2, 2, 'm'), 'o', 1, 3, 4, 6, 8, 9, 10, 11));
         for (int[] start : new int[][] {{1, 1}, {2, 0}, {2, 2}}) {
             d.due("it is never out", keeps(x, start[0], start[1], 0, 0), -9);
             d.due("no number", keeps(x, start[0], start[1], 1, 0), -9);
@@ -148,7 +148,7 @@ public final class WaysOutTest {
         d.due("from room 0 it is out", keeps(x, 0, 0, 0, 0), 1);
         d.due("side 0 is open", keeps(x, 0, 0, 1, 0), 1);
         // a way of 8 rooms, to and fro: the glass ahead of the near border makes it go the long way
-        MirrorHouse way = of("w4h1;oom" + "oom" + "oom" + "oom" + "o" + "mmmm");
+        Counted way = of("w4h1;oom" + "oom" + "oom" + "oom" + "o" + "mmmm");
         d.due("out at once", keeps(way, 0, 0, 0, 12), 1);
         d.due("through all", keeps(way, 0, 0, 0, 1), 8);
         d.due("one of the two must be open", keeps(way, 0, 0, 1, 1, 12), 2);
@@ -156,7 +156,7 @@ public final class WaysOutTest {
     }
 
     private static void refusalsOfKeeps() {
-        MirrorHouse x = of(Due.all(1, 1, 'o'));
+        Counted x = of(Due.all(1, 1, 'o'));
         d.due("sheet 4", x.keeps(0, 0, 0, 4, 0, 0, 1, 0), -1);
         d.due("sheet -1", x.keeps(0, 0, 3, -1, 3, 0, 1, 2), -1);
         d.due("house 1", x.keeps(1, 0, 3, 0, 3, 0, 1, 2), -1);
@@ -198,7 +198,7 @@ public final class WaysOutTest {
 
     private static void changed() {
         // ten sides of no matter: all rows
-        MirrorHouse x = of("w2h2;" + "ooo".repeat(4) + "oooo");
+        Counted x = of("w2h2;" + "ooo".repeat(4) + "oooo");
         String other = Due.with(Due.all(2, 2, 'o'), 'g', 1, 2, 4);
         d.due("another", Due.build(x, other), 1);
         d.due("3 sides", x.changed(0, 1), 6);
@@ -212,7 +212,7 @@ public final class WaysOutTest {
         d.due("a third house, alike", Due.build(x, other), 2);
         d.due("one row, empty", x.changed(1, 2), 1);
         d.due("no first", x.change(1, 2, 0), -9);
-        MirrorHouse y = of("w4h3;" + "o".repeat(43));
+        Counted y = of("w4h3;" + "o".repeat(43));
         d.due("the other", Due.build(y, Due.with(Due.all(4, 3, 'o'), 'm', 0, 3, 6, 9, 12, 15, 18, 21, 24, 27)), 1);
         d.due("10 sides", y.changed(0, 1), 3628800);
         for (int k = 0; k < 10; k++) d.due("side", y.change(0, 1, k), 3 * k);
@@ -221,7 +221,7 @@ public final class WaysOutTest {
         d.due("11 sides", y.change(0, 1, 0), -3);
         y.pane(0, 42, 1);
         d.due("10 again, one of glass by glass", y.changed(0, 1), 3628800);
-        MirrorHouse shut = of(Due.all(1, 1, 'm'));
+        Counted shut = of(Due.all(1, 1, 'm'));
         Due.build(shut, Due.all(1, 1, 'm'));
         d.due("alike and not fair: no row", shut.changed(0, 1), 0);
         d.due("no first", shut.change(0, 1, 0), -9);
@@ -230,7 +230,7 @@ public final class WaysOutTest {
         d.due("not fair behind", shut.changed(2, 0), 0);
         d.due("no first", shut.change(2, 0, 0), -9);
         // smears are no difference
-        MirrorHouse s = of("w1h1;ogogo");
+        Counted s = of("w1h1;ogogo");
         Due.build(s, "w1h1;ogogo");
         s.walker(1, 0, 0, 0);
         s.ticks(0, 1);
@@ -240,7 +240,7 @@ public final class WaysOutTest {
 
     private static void rowsThatAreNotAll() {
         // room 0 out by side 1, then by side 2; room 1 out by side 3: 2 must be open ahead of 1 being shut
-        MirrorHouse x = of("w1h1;moggo");
+        Counted x = of("w1h1;moggo");
         d.due("the other", Due.build(x, "w1h1;mmogo"), 1);
         d.due("one row", x.changed(0, 1), 1);
         d.due("2 first", x.change(0, 1, 0), 2);
@@ -248,7 +248,7 @@ public final class WaysOutTest {
         d.due("back: 1 first", x.change(1, 0, 0), 1);
         d.due("then 2", x.change(1, 0, 1), 2);
         // and the same for room 1 at once: 6 of 24 rows
-        MirrorHouse y = of("w1h1;mogog");
+        Counted y = of("w1h1;mogog");
         d.due("the other", Due.build(y, "w1h1;mgogo"), 1);
         d.due("rows", y.changed(0, 1), 6);
         int[] first = {2, 1, 4, 3};
@@ -257,7 +257,7 @@ public final class WaysOutTest {
     }
 
     private static void refusalsOfChanged() {
-        MirrorHouse x = of(Due.all(2, 3, 'o'));
+        Counted x = of(Due.all(2, 3, 'o'));
         Due.build(x, Due.all(3, 2, 'o'));
         Due.build(x, Due.all(2, 2, 'o'));
         long lost = MirrorHouse.LOST;
